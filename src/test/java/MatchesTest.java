@@ -12,6 +12,8 @@ public final class MatchesTest {
         order();
         wide();
         noBeds();
+        twelveLayers();
+        asSoonAsItChanges();
         Desk.end();
     }
 
@@ -187,6 +189,85 @@ public final class MatchesTest {
         Desk.due(desk, "widest", desk.widest(), 2, 0);
         desk.wear(2, 50);
         Desk.due(desk, "of several the first", desk.widest(), 0, 0);
+    }
+
+    private static void twelveLayers() {
+        // All is left out: none may pair with what is so unlike.
+        BoreDesk desk = Desk.with("rock a skip 0;rock b skip 0;rock c skip 0;rock d skip 0;unlike a c costs 99;unlike a d costs 99;"
+                + "unlike b c costs 99;unlike b d costs 99;hole g at 0 0;hole h at 1 0;hole i at 0 2;");
+        for (int i = 0; i < 12; i++) {
+            desk.lay(0, i % 2, 1);
+            desk.lay(1, 2 + i % 2, 2);
+            desk.lay(2, i % 2, 1);
+        }
+        Desk.due("all left out", desk.match(0, 1), 36);
+        Desk.due("no pairs", desk.pairs(), 0);
+        Desk.due(desk, "the last is left out", desk.pairOf(11), -1, 6);
+        Desk.due("all paired", desk.match(0, 2), 0);
+        Desk.due("twelve pairs", desk.pairs(), 12);
+        Desk.due("the last with the last", desk.pairOf(11), 11);
+        Desk.due("of both ways", desk.beds(), 24);
+        Desk.due("36 and 0", desk.treeCost(), 36);
+        Desk.due("the last bed", desk.bedOf(1, 11), 23);
+        Desk.due("shared", desk.shared(0, 2), 12);
+    }
+
+    /** Whichever call comes first behind a change: it answers as it does on a desk that was asked nothing before. */
+    private static void asSoonAsItChanges() {
+        for (int which = 0; which < 18; which++) {
+            BoreDesk asked = new BoreDesk();
+            query(asked, which);
+            for (int changes = 1; changes <= 9; changes++) {
+                change(asked, changes);
+                BoreDesk fresh = new BoreDesk();
+                for (int i = 1; i <= changes; i++) {
+                    change(fresh, i);
+                }
+                long due = query(fresh, which);
+                Desk.due(asked, "query " + which + " behind change " + changes, query(asked, which), due, fresh.status());
+            }
+        }
+    }
+
+    private static void change(BoreDesk desk, int which) {
+        switch (which) {
+            case 1:
+                Desk.field(desk, FOUR + "triangle g h i;triangle g h j;");
+                Desk.years(desk, "lay j a 9;lay j b 2;lay h b 2;wear i 2;move f 3;");
+                break;
+            case 2: desk.mark(); desk.live(0); break;
+            case 3: desk.wear(3, 99); break;
+            case 4: desk.mark(); desk.lay(3, 2, 8); break;
+            case 5: desk.throwing(0, 0); break;
+            case 6: desk.back(); break;
+            case 7: desk.back(); break;
+            case 8: desk.lay(1, 1, 1); break;
+            default: Desk.field(desk, "rock a;hole g at 5 5 bed a thick 3;hole h at 7 9 bed a thick 4;hole i at 7 3;triangle g h i;"); break;
+        }
+    }
+
+    /** An answer, or the FRACTION, as one number. */
+    private static long query(BoreDesk desk, int which) {
+        switch (which) {
+            case 0: return desk.tree(0, 1);
+            case 1: return desk.treeCost();
+            case 2: return desk.beds();
+            case 3: return desk.bedOf(0, 0);
+            case 4: return desk.bedOf(1, 1);
+            case 5: return desk.tree(1, 2);
+            case 6: return desk.order(1);
+            case 7: return desk.widest();
+            case 8: return desk.holesOf(0);
+            case 9: return desk.shared(0, 1);
+            case 10: return desk.gaps(1);
+            case 11: return desk.bed(0, 1, 0);
+            case 12: return desk.above(0, 1);
+            case 13: return desk.deepest(0);
+            case 14: return desk.volumeOf(0) ? desk.top() * 100 + desk.bottom() : -1;
+            case 15: return desk.topAt(0, 7, 5) ? desk.top() * 100 + desk.bottom() : -1;
+            case 16: return desk.thickAt(0, 5, 5) ? desk.top() * 100 + desk.bottom() : -1;
+            default: return desk.tilt(0, 0, 0) ? desk.top() * 100 + desk.bottom() : -1;
+        }
     }
 
     private static void noBeds() {

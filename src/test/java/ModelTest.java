@@ -103,16 +103,57 @@ public final class ModelTest {
             return worn;
         }
 
-        /** All ways to match, those that go ahead first; the first of the least cost stays. */
+        /** The first of the least cost: of all ways, or, of very many layers, of what is left from each couple on. */
         int[] match(int a, int b) {
             best = Integer.MAX_VALUE;
             bestMates = null;
-            tryAll(holes.get(a), holes.get(b), 0, 0, 0, new int[holes.get(a).size()]);
-            return bestMates;
+            if (holes.get(a).size() + holes.get(b).size() <= 12) {
+                tryAll(holes.get(a), holes.get(b), 0, 0, 0, new int[holes.get(a).size()]);
+                return bestMates;
+            }
+            Map<List<Integer>, List<Integer>> known = new HashMap<>();
+            List<Integer> way = leastWay(holes.get(a), holes.get(b), 0, 0, known);
+            best = way.get(0);
+            return way.subList(1, way.size()).stream().mapToInt(i -> i).toArray();
         }
 
         int best;
         int[] bestMates;
+
+        /** The cost from two layers on, then what those of the first are paired with. */
+        private List<Integer> leastWay(List<Layer> a, List<Layer> b, int i, int j, Map<List<Integer>, List<Integer>> known) {
+            if (i == a.size() && j == b.size()) {
+                return List.of(0);
+            }
+            List<Integer> key = List.of(i, j);
+            if (known.containsKey(key)) {
+                return known.get(key);
+            }
+            List<List<Integer>> ways = new ArrayList<>();
+            if (i < a.size() && j < b.size()) {
+                int pair = unlike[a.get(i).rock][b.get(j).rock] + Math.abs(a.get(i).thick - b.get(j).thick);
+                ways.add(longer(leastWay(a, b, i + 1, j + 1, known), pair, j));
+            }
+            if (i < a.size()) {
+                ways.add(longer(leastWay(a, b, i + 1, j, known), skip[a.get(i).rock] + a.get(i).thick, -1));
+            }
+            if (j < b.size()) {
+                ways.add(longer(leastWay(a, b, i, j + 1, known), skip[b.get(j).rock] + b.get(j).thick, -2));
+            }
+            List<Integer> least = ways.stream().min(Comparator.comparingInt(w -> w.get(0))).orElseThrow();
+            known.put(key, least);
+            return least;
+        }
+
+        private static List<Integer> longer(List<Integer> way, int cost, int mate) {
+            List<Integer> longer = new ArrayList<>();
+            longer.add(way.get(0) + cost);
+            if (mate >= -1) {
+                longer.add(mate);
+            }
+            longer.addAll(way.subList(1, way.size()));
+            return longer;
+        }
 
         private void tryAll(List<Layer> a, List<Layer> b, int i, int j, int cost, int[] mates) {
             if (cost >= best) {
@@ -222,11 +263,14 @@ public final class ModelTest {
             BoreDesk[] desk = {Desk.with(text(model))};
             compare(desk, model);
             compareLogs(desk, model);
-            for (int i = 0; i < 12; i++) {
+            for (int i = random.nextInt(60); i > 0; i--) {
                 change(desk, model);
             }
             compare(desk, model);
-            compareYears(desk, model);
+            compareYears(model);
+            if (run % 4 == 0) {
+                compareMarks(model);
+            }
         }
         Desk.end();
     }
@@ -378,7 +422,7 @@ public final class ModelTest {
     private static void compareMatches(BoreDesk x, Model model) {
         for (int a = 0; a < model.at.length; a++) {
             for (int b = 0; b < model.at.length; b++) {
-                if (a != b && model.holes.get(a).size() + model.holes.get(b).size() <= 14) {
+                if (a != b) {
                     int[] mates = model.match(a, b);
                     Desk.due("match", x.match(a, b), model.best);
                     int pairs = 0;
@@ -676,7 +720,7 @@ public final class ModelTest {
         int much = 1 + random.nextInt(20);
         if (random.nextInt(3) == 0) {
             Desk.due("wear", desk[0].wear(hole, much), model.wear(hole, much));
-        } else if (model.holes.get(hole).size() < 8) {
+        } else {
             int rock = random.nextInt(model.skip.length);
             boolean laid = model.lay(hole, rock, much);
             Desk.due("lay", desk[0].lay(hole, rock, much), laid ? model.holes.get(hole).size() : -1);
@@ -692,7 +736,42 @@ public final class ModelTest {
     private static boolean left;
     private static int chance;
 
-    private static void compareYears(BoreDesk[] desk, Model model) {
+    /** Fields of their own with their years, marked, changed and taken back to. */
+    private static void compareMarks(Model last) {
+        BoreDesk[] desk = {new BoreDesk()};
+        Deque<Model> marked = new ArrayDeque<>();
+        Deque<List<Step>> years = new ArrayDeque<>();
+        for (int i = 0; i < 3; i++) {
+            Model model = someModel();
+            Desk.field(desk[0], text(model));
+            for (int k = 0; k < 8; k++) {
+                change(desk, model);
+            }
+            List<Step> program = model.at.length == 0 ? List.of() : List.of(someStep(model, 2), someStep(model, 3));
+            Desk.due("years to be marked", Desk.years(desk[0], written(program)), count(program));
+            Desk.due("mark", desk[0].mark(), i + 1);
+            marked.push(model);
+            years.push(program);
+            Model spoilt = model.copy();
+            change(desk, spoilt);
+            if (spoilt.at.length > 0) {
+                desk[0].odds(0, 0, 0, 2);
+                desk[0].live(random.nextInt(10000));
+            }
+        }
+        Desk.field(desk[0], text(last));
+        while (!marked.isEmpty()) {
+            Model model = marked.pop();
+            Desk.due("back", desk[0].back(), marked.size());
+            compare(desk, model);
+            int seed = random.nextInt(10000);
+            live(model, years.pop(), seed);
+            Desk.due("live as marked", desk[0].live(seed), steps);
+            compare(desk, model);
+        }
+    }
+
+    private static void compareYears(Model model) {
         if (model.at.length == 0) {
             return;
         }

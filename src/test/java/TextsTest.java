@@ -16,11 +16,13 @@ public final class TextsTest {
         fieldsTaken();
         fieldFaults();
         fieldMost();
+        namesApart();
         fieldRefused();
         yearsTaken();
         yearsFaults();
         yearsMost();
         yearsRefused();
+        yearsOneAfterAnother();
         faultTold();
         rocksAndHoles();
         layersAndSides();
@@ -134,6 +136,18 @@ public final class TextsTest {
         fieldFault(5, HOLES + "triangle d a ^a;");
         fieldFault(5, "fault f from 3 4 to 3 ^4 throws 1;");
         fieldFault(2, "hole ^at at 1 1;");
+        fieldFault(2, "rock a ^rock b;");
+        fieldFault(2, "rock a skip ^rock b;");
+        fieldFault(2, "rock a;rock b;unlike a b ^rock c;");
+        fieldFault(2, "rock a;rock b;unlike a b costs 3 ^rock c;");
+        fieldFault(2, "hole a ^rock b;");
+        fieldFault(2, "hole a at 1 1 ^rock b;");
+        fieldFault(2, "rock r;hole a at 1 1 bed r ^rock b;");
+        fieldFault(2, "fault f ^rock b;");
+        fieldFault(2, "fault f from 0 0 ^rock b;");
+        fieldFault(2, "fault f from 0 0 to 1 1 ^rock b;");
+        fieldFault(2, "fault f from 0 0 to 1 1 throws 5 ^rock b;");
+        fieldFault(2, HOLES + "triangle a b d ^rock b;");
         fieldFault(2, "hole a ^1 1;");
         fieldFault(2, "hole a at 1^;");
         fieldFault(2, "hole a at 1 ^a;");
@@ -176,6 +190,21 @@ public final class TextsTest {
         fieldFault(6, beds + " ^bed r thick 1;");
         fieldFault(6, triangles + "^triangle x;");
         fieldFault(6, faults + "^fault h from 0 0 to 1 1 throws 1;");
+    }
+
+    private static void namesApart() {
+        BoreDesk desk = Desk.with("rock ab skip 1;rock ba skip 2;rock b skip 3;rock aab skip 4;rock a skip 6;"
+                + "rock abcdefgh skip 7;rock abcdefgi skip 8;rock bbcdefgh skip 9;"
+                + "hole h at 0 0 bed bbcdefgh thick 1 bed abcdefgi thick 1 bed abcdefgh thick 1 bed a thick 1"
+                + " bed aab thick 1 bed b thick 1 bed ba thick 1 bed ab thick 1;");
+        for (int layer = 0; layer < 8; layer++) {
+            Desk.due("names are apart", desk.layer(0, layer, 0), 7 - layer);
+        }
+        Desk.due("years know them, too", Desk.years(desk, "lay h ba 1;lay h abcdefgi 1;lay h aab 1;"), 3);
+        desk.live(0);
+        Desk.due("aab", desk.layer(0, 0, 0), 3);
+        Desk.due("abcdefgi", desk.layer(0, 1, 0), 6);
+        Desk.due("ba", desk.layer(0, 2, 0), 1);
     }
 
     /** Where ^ stands in the text is the fault's place. */
@@ -221,6 +250,16 @@ public final class TextsTest {
             most.append("storm 1;");
         }
         yearsOf(most.toString(), 30);
+    }
+
+    private static void yearsOneAfterAnother() {
+        BoreDesk desk = Desk.with(HOLES);
+        for (int i = 1; i <= 6; i++) {
+            Desk.due(desk, "years anew", Desk.years(desk, "lay a clay " + i + ";lay b sand 1;"), 2, 0);
+            Desk.due(desk, "steps of these alone", desk.live(0), 2, 0);
+            Desk.due("all of a", desk.hole(0, 3), i * (i + 1) / 2);
+            Desk.due("all of b", desk.hole(1, 3), i);
+        }
     }
 
     private static void yearsOf(String text, int steps) {
