@@ -61,13 +61,17 @@ public final class MarksTest {
         desk.mark();
         Desk.field(desk, "rock x skip 1;rock y;rock z;hole k at 1 2;hole l at 3 4;hole m at 7 9;triangle k l m;");
         desk.mark();
-        Desk.field(desk, "");
-        Desk.due("nothing", desk.told(1), 0);
+        Desk.field(desk, "rock q;rock s;rock t;hole u at 0 0;hole v at 1 1;hole w at 0 1;"
+                + "fault e from 0 0 to 1 1 throws 1;fault d from 0 0 to 1 1 throws 1;");
+        Desk.due("other holes", desk.told(1), 3);
         desk.back();
         Desk.due("three holes", desk.told(1), 3);
         Desk.due("a triangle", desk.told(2), 1);
         Desk.due("its rock", desk.skip(0), 1);
         Desk.due(desk, "no years there", desk.live(0), -1, 6);
+        Desk.due("its names", Desk.years(desk, "lay k x 5;lay m z 3;"), 2);
+        Desk.due("lived there", desk.live(0), 2);
+        Desk.field(desk, "rock q;rock s;hole u at 0 0;hole v at 1 1;fault e from 0 0 to 1 1 throws 1;");
         desk.back();
         Desk.due("two holes", desk.told(1), 2);
         Desk.due("a fault", desk.told(3), 1);
@@ -75,7 +79,7 @@ public final class MarksTest {
         Desk.due("its rocks", desk.skip(1), 7);
         Desk.due(desk, "with the years", desk.live(0), 2, 0);
         Desk.due("moved", desk.hole(1, 4), 13);
-        Desk.due("names are known again", Desk.years(desk, "lay g b 5;"), 1);
+        Desk.due("names are known again", Desk.years(desk, "lay g b 5;move f 3;"), 2);
         Desk.years(desk, "lay k x 5;");
         Desk.due("those are not", desk.fault(0), 3);
     }

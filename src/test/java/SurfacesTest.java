@@ -168,8 +168,12 @@ public final class SurfacesTest {
                 + "hole h at 1 0 bed a thick 2 bed c thick 2;"
                 + "hole i at 0 1 bed a thick 2 bed d thick 2;"
                 + "hole j at 0 2;");
-        Desk.due("beds", desk.beds(), 4);
         Desk.due(desk, "shared g h", desk.shared(0, 1), 2, 0);
+        Desk.due("beds", desk.beds(), 4);
+        desk.wear(1, 2);
+        Desk.due(desk, "g and h share c alone", desk.shared(0, 1), 1, 0);
+        desk.lay(1, 0, 2);
+        Desk.due(desk, "a gap in h again", desk.gaps(1), 1, 0);
         Desk.due(desk, "shared h i", desk.shared(1, 2), 1, 0);
         Desk.due(desk, "shared i h", desk.shared(2, 1), 1, 0);
         Desk.due(desk, "shared with none", desk.shared(0, 3), 0, 0);

@@ -143,6 +143,10 @@ public final class TextsTest {
         fieldFault(2, "hole a ^rock b;");
         fieldFault(2, "hole a at 1 1 ^rock b;");
         fieldFault(2, "rock r;hole a at 1 1 bed r ^rock b;");
+        fieldFault(2, "rock r;hole a at 1 1 bed r^;");
+        fieldFault(2, "^" + ";".repeat(900));
+        fieldFault(2, "rock ^" + "h".repeat(895));
+        fieldFault(1, "rock ^" + "1".repeat(895));
         fieldFault(2, "fault f ^rock b;");
         fieldFault(2, "fault f from 0 0 ^rock b;");
         fieldFault(2, "fault f from 0 0 to 1 1 ^rock b;");
