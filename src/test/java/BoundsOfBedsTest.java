@@ -19,6 +19,8 @@ public final class BoundsOfBedsTest {
         sideRefused();
         match();
         matchOfNothing();
+        matchCosts();
+        matchNotCrossed();
         matchOfTwelve();
         matchTies();
         pairOf();
@@ -33,6 +35,7 @@ public final class BoundsOfBedsTest {
         bedsOfNone();
         bedsMost();
         bedsNumbered();
+        bedsAlongTheTree();
         bedOf();
         holesOf();
         bed();
@@ -40,6 +43,7 @@ public final class BoundsOfBedsTest {
         aboveInOneOfTheHoles();
         orderNumbers();
         orderOfLeast();
+        orderThereIs();
         widest();
         Desk.end();
     }
@@ -235,6 +239,32 @@ public final class BoundsOfBedsTest {
         Desk.due(desk, "layer 0 is left out", desk.pairOf(0), -1, 6);
         Desk.due(desk, "layer 1 is left out", desk.pairOf(1), -1, 6);
         Desk.due(desk, "no pairs either", desk.pairs(), 0, 0);
+    }
+
+    // Part 2: "a pair costs what its ROCKS cost (0 if alike) and by how much one is thicker"
+    private static void matchCosts() {
+        String rocks = "rock a skip 99;rock b skip 99;rock c skip 99;unlike a b costs 0;";
+        String[] beds = {"a 1|a 1", "a 99|a 1", "a 1|a 99", "a 5|b 5", "b 5|a 7", "a 5|c 5", "c 9|b 5"};
+        int[] due = {0, 98, 98, 0, 2, 9, 13};
+        for (int i = 0; i < due.length; i++) {
+            String[] both = beds[i].replace(" ", " thick ").split("\\|");
+            BoreDesk desk = Desk.with(rocks + "hole g at 0 0 bed " + both[0] + ";hole h at 1 1 bed " + both[1] + ";");
+            Desk.due(desk, "a pair: " + beds[i], desk.match(0, 1), due[i], 0);
+            Desk.due(desk, "one pair: " + beds[i], desk.pairs(), 1, 0);
+            Desk.due(desk, "the other way: " + beds[i], desk.match(1, 0), due[i], 0);
+        }
+    }
+
+    // Part 2: "so that pairs do not cross"
+    // Part 2: "The least COST of all"
+    private static void matchNotCrossed() {
+        BoreDesk desk = Desk.with("rock a;rock b skip 1;rock c skip 99;unlike a b costs 99;unlike a c costs 99;unlike b c costs 99;"
+                + "hole g at 0 0 bed a thick 9 bed b thick 9 bed c thick 9;hole h at 1 1 bed c thick 9 bed a thick 9 bed b thick 9;");
+        // c is dear to leave out: a and b are, on both sides.
+        Desk.due(desk, "c alone is paired", desk.match(0, 1), 14 + 10 + 14 + 10, 0);
+        Desk.due(desk, "a is left out", desk.pairOf(0), -1, 6);
+        Desk.due(desk, "b is left out", desk.pairOf(1), -1, 6);
+        Desk.due(desk, "the lowest with the top", desk.pairOf(2), 0, 0);
     }
 
     // Part 2: "LAYERS, at most 12 in a HOLE later on" - as many as there may be on both sides of a MATCH
@@ -459,6 +489,23 @@ public final class BoundsOfBedsTest {
         Desk.due(desk, "beds", desk.beds(), 5, 0);
     }
 
+    // Part 2: "LAYERS that are paired by couples of the TREE (the first HOLE's with the second's), and so on, are one BED"
+    private static void bedsAlongTheTree() {
+        String ends = "hole g at 0 0 bed a thick 9;hole i at 9 0 bed a thick 9;";
+        BoreDesk through = Desk.with(ROCKS + "unlike a b costs 99;" + ends + "hole h at 5 0 bed a thick 9;");
+        Desk.due(through, "through the hole between", through.holesOf(0), 7, 0);
+        BoreDesk apart = Desk.with(ROCKS + "unlike a b costs 99;" + ends + "hole h at 5 0 bed b thick 9;");
+        Desk.due(apart, "not where it has another rock", apart.holesOf(0), 1, 0);
+        Desk.due(apart, "two of a, one of b", apart.beds(), 3, 0);
+        BoreDesk near = Desk.with(ROCKS + "unlike a b costs 99;" + ends + "hole h at 5 900 bed b thick 9;");
+        Desk.due(near, "where they are a couple themselves", near.holesOf(0), 3, 0);
+        // The couple's first HOLE is the first of the MATCH: of two alike ones below, the upper one pairs with that of the first.
+        BoreDesk first = Desk.with(ROCKS + "unlike a b costs 99;hole g at 0 0 bed a thick 2 bed b thick 2;hole h at 1 1 bed b thick 2 bed a thick 2;");
+        Desk.due(first, "a of the first is left out", first.bedOf(0, 0), 0, 0);
+        Desk.due(first, "b of both is one bed", first.holesOf(1), 3, 0);
+        Desk.due(first, "a of the second is a bed of its own", first.holesOf(2), 2, 0);
+    }
+
     // Promise 26: "The BED of a LAYER (1)."
     private static void bedOf() {
         for (int number : new int[] {-1, 4, 12, LEAST, MOST}) {
@@ -557,6 +604,37 @@ public final class BoundsOfBedsTest {
         int[] due = {2, 1, 0, 3};
         for (int k = 0; k < 4; k++) {
             Desk.due(desk, "order " + k, desk.order(k), due[k], 0);
+        }
+    }
+
+    // Part 2: "if there is none such, there is no ORDER."
+    private static void orderThereIs() {
+        // As pairs do not cross and the TREE has no rounds, no BED can be ABOVE itself by others: there is always one.
+        int seed = 7;
+        for (int made = 0; made < 300; made++) {
+            StringBuilder text = new StringBuilder("rock a skip 1;rock b skip 2;rock c skip 0;unlike a b costs 1;unlike b c costs 3;");
+            for (int hole = 0; hole < 6; hole++) {
+                seed = (seed * 2777 + 9551) % 65536;
+                text.append("hole ").append((char) ('g' + hole)).append(" at ").append(hole * 10 + seed / 8 % 10).append(' ').append(seed / 80 % 100);
+                for (int layer = 0; layer < 5; layer++) {
+                    seed = (seed * 2777 + 9551) % 65536;
+                    text.append(" bed ").append((char) ('a' + seed / 8 % 3)).append(" thick ").append(1 + seed / 24 % 4);
+                }
+                text.append(';');
+            }
+            BoreDesk desk = Desk.with(text.toString());
+            int[] place = new int[desk.beds()];
+            for (int k = 0; k < place.length; k++) {
+                int bed = desk.order(k);
+                Desk.due("STATUS of order " + k, desk.status(), 0);
+                place[Math.max(bed, 0)] = k;
+            }
+            Desk.due(desk, "no more", desk.order(place.length), -1, 6);
+            for (int a = 0; a < place.length && a < 12; a++) {
+                for (int b = 0; b < place.length && b < 12; b++) {
+                    Desk.due("above is ahead", desk.above(a, b) == 0 || place[a] < place[b], true);
+                }
+            }
         }
     }
 

@@ -33,6 +33,8 @@ public final class BoundsOfLogsTest {
         runsBounds();
         agreesRefused();
         agreesNumbers();
+        codedUnitByUnit();
+        noneInEachSort();
         agreesAtTheFoot();
         shiftRefused();
         shiftWhat();
@@ -315,6 +317,40 @@ public final class BoundsOfLogsTest {
         Desk.write(bare, 0, -1, 0);
         Desk.due(bare, "without rocks -1 alone", bare.agrees(0, 1, 0), 0, 0);
         Desk.due(bare, "without rocks 0", bare.agrees(0, 2, 0), -1, 5);
+    }
+
+    // Part 3: "A CODED LOG has ROCKS' numbers, one for each unit of THICK from the top down."
+    private static void codedUnitByUnit() {
+        BoreDesk desk = Desk.with("rock a;rock b;rock c;rock d;rock e;rock f;rock g;rock h;"
+                + "hole o at 5 0 bed h thick 1 bed a thick 1 bed g thick 2 bed b thick 3;");
+        long[] log = {7, 0, 6, 6, 1, 1, 1};
+        Desk.write(desk, 0, log);
+        for (int many = 1; many <= 7; many++) {
+            Desk.due(desk, "units: " + many, desk.agrees(0, many, 0), many, 0);
+        }
+        for (int k = 0; k < 7; k++) {
+            desk.write(0, k, 3);
+            Desk.due(desk, "all but unit " + k, desk.agrees(0, 7, 0), 6, 0);
+            desk.write(0, k, log[k]);
+        }
+        desk.write(0, 0, 8);
+        Desk.due(desk, "a ninth rock", desk.agrees(0, 7, 0), -1, 5);
+    }
+
+    // Part 3: "A LOG is a row of numbers in a TRAY, -1 is none."
+    private static void noneInEachSort() {
+        for (int sort = 0; sort <= 3; sort++) {
+            BoreDesk desk = new BoreDesk();
+            desk.tray(0, sort, 4);
+            desk.write(0, 0, 1);
+            desk.write(0, 1, -1);
+            desk.write(0, 2, 9);
+            Desk.due(desk, "none ahead of 9, sort " + sort, desk.picks(0, 3, 5, 1), 0, 0);
+            Desk.due(desk, "none is filled, sort " + sort, desk.fill(0, 3), 1, 0);
+            Desk.due(desk, "1 ahead of 9, sort " + sort, desk.picks(0, 3, 5, 1), 1, 0);
+            desk.write(0, 3, -2);
+            Desk.due(desk, "-2 is no none, sort " + sort, desk.fill(0, 4), -1, 5);
+        }
     }
 
     // Part 3: "AGREES with a HOLE: at how many places k (0 ..) its number is the ROCK of the LAYER that has the unit k there."

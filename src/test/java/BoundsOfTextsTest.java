@@ -324,6 +324,7 @@ public final class BoundsOfTextsTest {
     }
 
     // Terms: "HOLES, at most 6"
+    // Promise 10: "how many HOLES"
     private static void holesMost() {
         StringBuilder text = new StringBuilder();
         for (int i = 0; i < 6; i++) {
@@ -534,6 +535,8 @@ public final class BoundsOfTextsTest {
     }
 
     // Terms: "the end: the text's length" - wherever a text may end too early
+    // Terms: "PART: rock NAME [skip NUMBER] ; or unlike NAME NAME costs NUMBER ; or hole NAME at NUMBER NUMBER {bed NAME thick NUMBER} ;"
+    // Terms: "or triangle NAME NAME NAME ; or fault NAME from NUMBER NUMBER to NUMBER NUMBER throws NUMBER ;"
     private static void kindTwoAtTheEnd() {
         String whole = "rock a skip 3;rock b;unlike a b costs 4;hole h at 1 2 bed a thick 3;hole i at 2 2;hole j at 2 3;"
                 + "triangle h i j;fault f from 1 2 to 3 4 throws 5;";

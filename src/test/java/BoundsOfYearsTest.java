@@ -52,6 +52,7 @@ public final class BoundsOfYearsTest {
         threeHundred();
         stopAmongThem();
         livedNumbers();
+        livedWhat();
         livedLatest();
         oddsNumbers();
         oddsLast();
@@ -112,7 +113,8 @@ public final class BoundsOfYearsTest {
         Desk.due(desk, "the tape is as it was", desk.field(320), -1, 9);
     }
 
-    // Promise 11: "Likewise" - "The first n bytes of the tape (which is empty then)"
+    // Promise 11: "Likewise the YEARS"
+    // Promise 10: "The first n bytes of the tape (which is empty then)"
     private static void yearsEmptyTheTape() {
         BoreDesk desk = Desk.with(GROUND);
         Desk.feed(desk, "stop;stop;stop;");
@@ -250,6 +252,8 @@ public final class BoundsOfYearsTest {
     }
 
     // Part 4: "the text's end ahead of an end: 2"
+    // Part 4: "STEP: lay NAME NAME NUMBER ; or wear NAME NUMBER ; or storm NUMBER ; or move NAME NUMBER ; or when TEST ; {STEP} end ; or loop NUMBER ; {STEP} end ; or stop ;"
+    // Part 4: "TEST: deep NAME COMPARES NUMBER, or has NAME NAME, or top NAME NAME."
     private static void kindTwoAtTheEnd() {
         String whole = "lay g a 5;wear g 5;storm 5;move f 5;when deep g < 5;when has g a;when top g a;end;end;end;loop 3;stop;end;";
         int open = 0;
@@ -337,7 +341,8 @@ public final class BoundsOfYearsTest {
         Picture.noYears(6, "stop;".repeat(27) + "loop 1;loop 1;loop 1;^when");
     }
 
-    // Promise 11: "Likewise" - "9: the old one stays"
+    // Promise 11: "Likewise the YEARS"
+    // Promise 10: "9: the old one stays"
     private static void theOldOnesStay() {
         Picture.noYears(2, "lay g a 9;lay^");
         Picture.noYears(2, "lay g a 9;lay g a 9;lay g a 9^");
@@ -695,6 +700,16 @@ public final class BoundsOfYearsTest {
             desk.odds(0, 0, 0, 1);
             Desk.due(desk, "there was none", desk.lived(what), -1, 6);
         }
+    }
+
+    // Promise 55: "what 0: how many were MISSED, 1: how much was laid, 2: how much wore off"
+    private static void livedWhat() {
+        BoreDesk desk = living("lay h a 99;lay h b 1;wear h 2;wear g 99;wear g 1;move f 99;move f 99;lay g c 7;storm 1;");
+        Desk.due(desk, "missed ones, too", desk.live(0), 9, 0);
+        lived(desk, "one missed, 107 laid, 2 and 6 worn off", 1, 107, 8, 0);
+        BoreDesk none = living("stop;");
+        none.live(0);
+        lived(none, "nothing", 0, 0, 0, 0);
     }
 
     // Promise 55: "Of live() latest with STATUS 0 (whatever came behind it)"
