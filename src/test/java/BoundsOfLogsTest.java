@@ -36,6 +36,7 @@ public final class BoundsOfLogsTest {
         codedUnitByUnit();
         noneInEachSort();
         agreesAtTheFoot();
+        agreesBelowWhatIsGone();
         shiftRefused();
         shiftWhat();
         shiftFarthest();
@@ -367,6 +368,22 @@ public final class BoundsOfLogsTest {
         BoreDesk deep = Desk.with("rock a;hole g at 5 0 bed a thick 99;");
         deep.tray(0, 0, 60);
         Desk.due(deep, "sixty", deep.agrees(0, 60, 0), 60, 0);
+    }
+
+    // Part 3: "its number is the ROCK of the LAYER that has the unit k there." - of none below the lowest LAYER
+    private static void agreesBelowWhatIsGone() {
+        BoreDesk desk = Desk.with("rock a;rock b;hole g at 0 0 bed a thick 4 bed b thick 2;");
+        desk.wear(0, 4);
+        Desk.write(desk, 0, 1, 1, 1, 1);
+        Desk.due(desk, "b is told once", desk.agrees(0, 4, 0), 2, 0);
+        Desk.due(desk, "and drawn once", desk.draws(0, 0), 2, 0);
+        BoreDesk twelve = Desk.with("rock a;rock b;hole g at 0 0;hole h at 1 1 bed a thick 9;");
+        for (int layer = 0; layer < 12; layer++) {
+            twelve.lay(0, layer % 2, 1);
+        }
+        twelve.tray(0, 0, 20);
+        Desk.due(twelve, "twelve units, none of the next hole's", twelve.draws(0, 0), 12, 0);
+        Desk.due(twelve, "0s behind them agree with nothing", twelve.agrees(0, 20, 0), 12, 0);
     }
 
     // Promise 49: "(1; 2; 3; 5)"
