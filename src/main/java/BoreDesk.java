@@ -46,6 +46,8 @@ public final class BoreDesk {
     private static final int MOST_LOG_NUMBER = 999999;
     private static final int MOST_WINDOW = 9;
     private static final int FARTHEST_SHIFT = 20;
+    // More than any cost, any square of a distance.
+    private static final int ABOVE_ALL = 2147483647;
 
     // The words that are no names, numbered as KEPT_WORDS has them; steps of years bear these numbers, too.
     private static final String KEPT_WORDS = "rock skip unlike costs hole at bed thick triangle fault from to throws lay wear storm move when deep has top loop end stop ";
@@ -116,7 +118,7 @@ public final class BoreDesk {
         return fractionBottom;
     }
 
-    // ---- trays
+    // ---- TRAYS
 
     public boolean tray(int tray, int sort, int many) {
         if (!isTray(tray) || !isWithin(sort, 0, 3) || !isWithin(many, 0, MOST_PLACES)) {
@@ -339,7 +341,7 @@ public final class BoreDesk {
         return answer(beds.cost);
     }
 
-    // ---- beds
+    // ---- BEDS
 
     public int beds() {
         beds.refresh(ground);
@@ -543,7 +545,7 @@ public final class BoreDesk {
         return answer(logs.draw(trays[tray], ground, hole));
     }
 
-    // ---- logs
+    // ---- LOGS
 
     public int picks(int tray, int many, int mark, int window) {
         if (!isWithin(mark, 0, MOST_LOG_NUMBER) || !isWithin(window, 1, MOST_WINDOW)) {
@@ -704,7 +706,7 @@ public final class BoreDesk {
         return tell(having, many);
     }
 
-    // ---- marks
+    // ---- MARKS
 
     public int mark() {
         if (marks >= MOST_MARKS) {
@@ -1991,7 +1993,7 @@ public final class BoreDesk {
             int first = slot(a, i);
             int second = slot(b, j);
             int place = i * WIDE + j;
-            int least = Integer.MAX_VALUE;
+            int least = ABOVE_ALL;
             if (hasFirst && hasSecond) {
                 least = pairCost(ground, first, second) + cost[place + WIDE + 1];
             }
@@ -2096,7 +2098,7 @@ public final class BoreDesk {
         }
 
         private void addNearest(Ground ground) {
-            int best = Integer.MAX_VALUE;
+            int best = ABOVE_ALL;
             for (int a = 0; a < ground.holes; a++) {
                 for (int b = a + 1; b < ground.holes; b++) {
                     int apart = squareApart(ground, a, b);

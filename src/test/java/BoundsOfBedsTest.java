@@ -227,7 +227,7 @@ public final class BoundsOfBedsTest {
         }
     }
 
-    // Part 2: "LAYERS of both from the top down are paired, or left out" - none at all
+    // Part 2: "MATCH of two HOLES: LAYERS of both from the top down are paired, or left out" - none at all
     // Part 2: "one left out costs its SKIP and how THICK it is."
     private static void matchOfNothing() {
         BoreDesk desk = Desk.with("rock a skip 0;rock b skip 99;hole g at 0 0;hole h at 1 1;hole i at 2 2 bed a thick 1 bed b thick 99;");
@@ -387,7 +387,7 @@ public final class BoundsOfBedsTest {
         Desk.due(six, "five couples alone", six.tree(5, 1), -1, 6);
     }
 
-    // Part 2: "of several the least first, then the least second HOLE, the first below the second"
+    // Part 2: "one after another that with the least square of the distance (of several the least first, then the least second HOLE, the first below the second)"
     private static void treeTies() {
         // A square with its middle: each corner is as near to the middle.
         BoreDesk desk = Desk.with("hole a at 4 4;hole b at 0 0;hole c at 0 8;hole d at 8 0;hole e at 8 8;");
@@ -449,7 +449,7 @@ public final class BoundsOfBedsTest {
         Desk.due(bare, "no bed again", bare.beds(), 0, 0);
     }
 
-    // Part 2: "LAYERS that are paired by couples of the TREE" - as many BEDS as there may be
+    // Part 2: "BEDS: LAYERS that are paired by couples of the TREE" - as many BEDS as there may be
     private static void bedsMost() {
         StringBuilder text = new StringBuilder();
         for (char rock = 'a'; rock <= 'd'; rock++) {
@@ -475,7 +475,7 @@ public final class BoundsOfBedsTest {
     }
 
     // Part 2: "numbered by HOLES, then from the top: as each is come to first."
-    // Part 2: "a BED has one LAYER of a HOLE at most."
+    // Part 2: "(As the TREE has no rounds, a BED has one LAYER of a HOLE at most.)"
     private static void bedsNumbered() {
         BoreDesk desk = Desk.with(ROCKS + "unlike a b costs 99;unlike a c costs 99;unlike b c costs 99;"
                 + "hole g at 0 0 bed b thick 9;hole h at 1 0 bed a thick 9 bed b thick 9 bed c thick 9 bed b thick 9;"
@@ -566,7 +566,7 @@ public final class BoundsOfBedsTest {
         }
     }
 
-    // Part 2: "a BED is ABOVE another one, if in a HOLE that has both its LAYER is higher."
+    // Part 2: "ABOVE: a BED is ABOVE another one, if in a HOLE that has both its LAYER is higher."
     private static void aboveInOneOfTheHoles() {
         BoreDesk desk = Desk.with("rock a;rock b;rock c;unlike a b costs 99;unlike a c costs 99;unlike b c costs 99;"
                 + "hole g at 0 0 bed a thick 9;hole h at 1 0 bed b thick 9;hole i at 2 0 bed c thick 9 bed b thick 9;"

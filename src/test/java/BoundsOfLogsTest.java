@@ -89,7 +89,7 @@ public final class BoundsOfLogsTest {
         Picture.refused("window ahead of 5", desk -> desk.picks(2, 1, 3, 0), 1);
     }
 
-    // Promise 44: "the first so many (1 to 60) numbers of a TRAY"
+    // Promise 44: "How many PICKS the first so many (1 to 60) numbers of a TRAY have"
     private static void picksBySoMany() {
         long[] log = new long[60];
         for (int k = 0; k < 60; k++) {
@@ -116,6 +116,7 @@ public final class BoundsOfLogsTest {
         Desk.due(desk, "its place", desk.pickAt(0), 3, 0);
     }
 
+    // Promise 44: "a window"
     // Part 3: "PICKS of a mark, by a window w (1 to 9)"
     private static void picksWindows() {
         for (int window : new int[] {-1, 0, 10, LEAST, MOST}) {
@@ -175,7 +176,7 @@ public final class BoundsOfLogsTest {
         Desk.due(zero, "0 behind none by a mark of 0", zero.picks(0, 4, 0, 1), 0, 0);
     }
 
-    // Part 3: "of the next w less 1 none is below it"
+    // Part 3: "and of the next w less 1 none is below it"
     private static void picksNextOnes() {
         BoreDesk desk = with(0, 9, 5, 4);
         Desk.due(desk, "the next is the mark", desk.picks(0, 4, 5, 2), 1, 0);
@@ -306,7 +307,7 @@ public final class BoundsOfLogsTest {
         }
     }
 
-    // Promise 48: "5: no ROCK, not -1"
+    // Promise 48: "AGREES of a CODED LOG of so many numbers with a HOLE (1; 2; 3; 5: no ROCK, not -1"
     private static void agreesNumbers() {
         BoreDesk desk = Desk.with(Picture.FIELD);
         Desk.write(desk, 0, -1, 0, 2, 3);
@@ -402,7 +403,7 @@ public final class BoundsOfLogsTest {
         }
     }
 
-    // Promise 49: "what 0: by how many, 1: at how many places it AGREES then"
+    // Promise 49: "SHIFT, what 0: by how many, 1: at how many places it AGREES then"
     private static void shiftWhat() {
         BoreDesk desk = Desk.with("rock a;rock b;hole h at 0 0 bed a thick 3 bed b thick 2;");
         Desk.write(desk, 0, 1, 1);

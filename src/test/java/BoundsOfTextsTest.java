@@ -7,6 +7,7 @@ public final class BoundsOfTextsTest {
     public static void main(String[] args) {
         tapeMost();
         highestByteFirst();
+        behindThoseOnTheTape();
         feedHasNoStatus();
         fieldNumbers();
         fieldEmptiesTheTape();
@@ -87,6 +88,31 @@ public final class BoundsOfTextsTest {
         desk.feed(-1, 0, 0, 0, 0);
         Desk.due(desk, "255", desk.field(1), -1, 9);
         Desk.due("no token begins so", desk.fault(0), 1);
+    }
+
+    // Promise 9: "Twenty bytes come behind those on the tape"
+    private static void behindThoseOnTheTape() {
+        BoreDesk desk = new BoreDesk();
+        // "rock abcd;hole h at " and "7 9;", then blanks: a text that goes on from one feed to the next.
+        Desk.due("twenty", desk.feed(0x726f636b, 0x20616263, 0x643b686f, 0x6c652068, 0x20617420), 20);
+        Desk.due("twenty more", desk.feed(0x3720393b, 0x20202020, 0x20202020, 0x20202020, 0x20202020), 40);
+        Desk.due(desk, "of both", desk.field(24), 1, 0);
+        Desk.due(desk, "x, of the second", desk.hole(0, 0), 7, 0);
+        Desk.due(desk, "y, of the second", desk.hole(0, 1), 9, 0);
+        // A word, a number that begin in one and end in the other.
+        desk.feed(0x726f636b, 0x20612073, 0x6b69703b, 0x20202020, 0x2020726f);
+        desk.feed(0x636b2062, 0x3b202020, 0x20202020, 0x20202020, 0x20202020);
+        Desk.due(desk, "skip without a number", desk.field(40), -1, 9);
+        Desk.due("its place", desk.fault(1), 11);
+        desk.feed(0x726f636b, 0x20612020, 0x20202020, 0x20736b69, 0x70202031);
+        desk.feed(0x323b726f, 0x636b2062, 0x20736b69, 0x70202039, 0x39203b20);
+        Desk.due(desk, "12, and 99", desk.field(40), 0, 0);
+        Desk.due(desk, "12 of 1 and 2", desk.skip(0), 12, 0);
+        Desk.due(desk, "all of the second", desk.skip(1), 99, 0);
+        // Behind a text that was taken the tape is empty: what is fed then is the first.
+        desk.feed(0x726f636b, 0x20613b20, 0x20202020, 0x20202020, 0x20202020);
+        Desk.due(desk, "the first seven alone", desk.field(7), 0, 0);
+        Desk.due("twenty again", desk.feed(0x726f636b, 0x207a3b20, 0x20202020, 0x20202020, 0x20202020), 20);
     }
 
     // Part 5: "status(), top(), bottom(), feed(), fault() have none."
@@ -303,7 +329,7 @@ public final class BoundsOfTextsTest {
         Picture.noField(4, "rock a skip ^9999;");
     }
 
-    // Terms: "what two different ROCKS cost (0 to 99; 9 for a couple not told; told twice: the latest), either way."
+    // Terms: "UNLIKE: what two different ROCKS cost (0 to 99; 9 for a couple not told; told twice: the latest), either way."
     private static void unlikeCosts() {
         BoreDesk desk = taken("rock a;rock b;rock c;unlike a b costs 0;unlike c b costs 7;unlike b c costs 99;rock d;", 0);
         Desk.due("0", desk.unlike(0, 1), 0);
@@ -402,6 +428,7 @@ public final class BoundsOfTextsTest {
         Picture.noField(2, THREE + "triangle a b c ^a;");
     }
 
+    // Terms: "of three HOLES told, not on one line."
     // Terms: "a TRIANGLE on one line, or of one HOLE twice (at its last NAME)"
     private static void trianglesOnOneLine() {
         Picture.noField(5, "hole a at 0 0;hole b at 1 1;hole c at 2 2;triangle a b ^c;");
@@ -598,7 +625,7 @@ public final class BoundsOfTextsTest {
         }
     }
 
-    // Terms: "the first along it"
+    // Terms: "FAULTS of the text, the first along it"
     private static void theFirstAlongIt() {
         Picture.noField(4, "rock a skip ^100;!");
         Picture.noField(3, "rock a;rock ^a skip 100;");

@@ -88,7 +88,7 @@ public final class BoundsOfTraysTest {
         }
     }
 
-    // Terms: "rows of 0 to 60 numbers"
+    // Terms: "MISSING at first, or rows of 0 to 60 numbers"
     private static void placesOfTrays() {
         BoreDesk desk = new BoreDesk();
         Desk.due(desk, "no numbers", desk.tray(0, 0, 0), true, 0);
@@ -189,7 +189,7 @@ public final class BoundsOfTraysTest {
         Picture.refused("read of the greatest place", desk -> desk.read(0, Integer.MAX_VALUE), 3);
     }
 
-    // Promise 7: "STATUS tells NONE from -1"
+    // Promise 7: "The number in a place of a TRAY; STATUS tells NONE from -1"
     private static void noneFromMinusOne() {
         BoreDesk desk = new BoreDesk();
         desk.tray(0, 0, 1);
@@ -287,7 +287,7 @@ public final class BoundsOfTraysTest {
         Picture.denied("8 ahead of 3, to", desk -> desk.pour(0, 0, 1, 0, 99), 8);
     }
 
-    // Promise 8: "come to another one's (or its own) place on, as they were"
+    // Promise 8: "So many numbers of a TRAY, from a place on, come to another one's (or its own) place on, as they were"
     private static void pourOntoItself() {
         BoreDesk desk = new BoreDesk();
         Desk.write(desk, 0, 1, 2, 3, 4);

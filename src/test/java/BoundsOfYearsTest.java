@@ -10,6 +10,8 @@ public final class BoundsOfYearsTest {
     public static void main(String[] args) {
         yearsNumbers();
         yearsMost();
+        everyByteAlone();
+        tokensOfYears();
         yearsEmptyTheTape();
         noneAtFirst();
         stepsAnyNumberOfTimes();
@@ -111,6 +113,35 @@ public final class BoundsOfYearsTest {
         Desk.feed(desk, "stop;" + " ".repeat(400));
         Desk.due(desk, "301 of more than 400", desk.years(301), -1, 1);
         Desk.due(desk, "the tape is as it was", desk.field(320), -1, 9);
+    }
+
+    // Part 4: "of such TOKENS" - alone
+    private static void everyByteAlone() {
+        for (int b = 0; b <= 255; b++) {
+            BoreDesk desk = new BoreDesk();
+            boolean blank = b == 10 || b == 32;
+            boolean token = b >= 'a' && b <= 'z' || b >= '0' && b <= '9' || b == ';' || b == '<' || b == '>' || b == '=';
+            desk.feed(b << 24, 0, 0, 0, 0);
+            Desk.due(desk, "byte " + b, desk.years(1), blank ? 0 : -1, blank ? 0 : 9);
+            Desk.due("fault of byte " + b, desk.fault(0), blank ? 0 : token ? 2 : 1);
+            Desk.due("place of byte " + b, desk.fault(1), blank ? -1 : 0);
+        }
+    }
+
+    // Part 4: "YEARS are a TEXT of at most 300 bytes, of such TOKENS" - as long as they go, between them blanks
+    private static void tokensOfYears() {
+        taken("\n \n lay \n g\n\na 5 ; \n", 1);
+        taken("lay g a5;wear g5;storm5;move f5;loop5;end;", 5);
+        taken("when deep g<5;end;when deep g>5;end;when deep g=5;end;", 3);
+        taken("stop;stop\n;stop ;", 3);
+        Picture.noYears(2, "^stopstop;");
+        Picture.noYears(2, "^layg a 5;");
+        Picture.noYears(3, "lay ^ga 5;");
+        Picture.noYears(2, "storm 5 ^5;");
+        Picture.noYears(1, "storm 5;^\r\n");
+        Picture.noYears(1, "stop;^STOP;");
+        Picture.noYears(1, "when deep g ^!= 5;end;");
+        Picture.noYears(2, "when deep g < ^> 5;end;");
     }
 
     // Promise 11: "Likewise the YEARS"
@@ -560,7 +591,7 @@ public final class BoundsOfYearsTest {
         lived(none, "no holes", 0, 0, 0, 0);
     }
 
-    // Part 4: "s, at first the seed, becomes what is left of s times 2,777 and 9,551 by 65,536; the draw is the rest of s by 8, rounded down, by n."
+    // Part 4: "Draws: s, at first the seed, becomes what is left of s times 2,777 and 9,551 by 65,536; the draw is the rest of s by 8, rounded down, by n."
     private static void draws() {
         for (int first : new int[] {0, 1, 20, 21, 9998, 9999}) {
             for (int n : new int[] {1, 2, 98, 99}) {

@@ -2,6 +2,7 @@ import com.sun.source.tree.*;
 import com.sun.source.util.*;
 import java.nio.file.Path;
 import java.util.*;
+import java.util.regex.Pattern;
 import javax.lang.model.element.*;
 import javax.tools.*;
 
@@ -13,6 +14,9 @@ public final class LanguageTest {
     private static final Set<String> LIBRARY = Set.of("java.lang.System.arraycopy", "java.lang.Math.abs", "java.lang.Math.min",
         "java.lang.Math.max", "java.lang.Integer.bitCount", "java.lang.String.length", "java.lang.String.charAt",
         "java.lang.Object.<init>");
+    /** Numbers, truths, signs, Strings, own classes; rows of them, and rows of rows of numbers. */
+    private static final Pattern TYPE = Pattern.compile(
+        "((int|long|short|byte|char|boolean|java\\.lang\\.String|BoreDesk(\\.\\w+)?)(\\[\\])?|(int|long|short|byte)\\[\\]\\[\\])");
     private static final Map<Element, Set<Element>> CALLS = new HashMap<>();
     private static final Set<String> PUBLIC_NAMES = new HashSet<>();
     private static Trees trees;
@@ -157,11 +161,44 @@ public final class LanguageTest {
         }
 
         @Override
+        public Void visitMemberSelect(MemberSelectTree tree, Void nothing) {
+            Element target = trees.getElement(getCurrentPath());
+            if (target != null && target.getKind() == ElementKind.FIELD && !tree.getIdentifier().contentEquals("length")) {
+                String owner = ((TypeElement) target.getEnclosingElement()).getQualifiedName().toString();
+                if (!owner.startsWith("BoreDesk")) {
+                    flag(tree, "not of the library: " + owner + "." + tree.getIdentifier());
+                }
+            }
+            return super.visitMemberSelect(tree, nothing);
+        }
+
+        @Override
+        public Void visitVariable(VariableTree tree, Void nothing) {
+            String type = trees.getTypeMirror(getCurrentPath()).toString();
+            if (!TYPE.matcher(type).matches()) {
+                flag(tree, "not of the types: " + type);
+            }
+            return super.visitVariable(tree, nothing);
+        }
+
+        @Override
         public Void visitBinary(BinaryTree tree, Void nothing) {
             if (tree.getKind() == Tree.Kind.PLUS && trees.getTypeMirror(getCurrentPath()).toString().endsWith("String")) {
                 flag(tree, "no joining of texts by +");
             }
+            boolean compares = tree.getKind() == Tree.Kind.EQUAL_TO || tree.getKind() == Tree.Kind.NOT_EQUAL_TO;
+            if (compares && trees.getTypeMirror(new TreePath(getCurrentPath(), tree.getLeftOperand())).toString().endsWith("String")) {
+                flag(tree, "no == or != between two Strings");
+            }
             return super.visitBinary(tree, nothing);
+        }
+
+        @Override
+        public Void visitTypeCast(TypeCastTree tree, Void nothing) {
+            if (!trees.getTypeMirror(getCurrentPath()).getKind().isPrimitive()) {
+                flag(tree, "no cast of an object without a test");
+            }
+            return super.visitTypeCast(tree, nothing);
         }
 
         @Override
