@@ -185,15 +185,7 @@ public final class BoundsOfTextsTest {
 
     // Terms: "TOKENS, as long as they go, between them blanks (10, 32): WORDS (small letters), NUMBERS (1 to 4 digits), SIGNS ; < > ="
     private static void everyByteAlone() {
-        for (int b = 0; b <= 255; b++) {
-            BoreDesk desk = new BoreDesk();
-            boolean blank = b == 10 || b == 32;
-            boolean token = b >= 'a' && b <= 'z' || b >= '0' && b <= '9' || b == ';' || b == '<' || b == '>' || b == '=';
-            desk.feed(b << 24, 0, 0, 0, 0);
-            Desk.due(desk, "byte " + b, desk.field(1), blank ? 0 : -1, blank ? 0 : 9);
-            Desk.due("fault of byte " + b, desk.fault(0), blank ? 0 : token ? 2 : 1);
-            Desk.due("place of byte " + b, desk.fault(1), blank ? -1 : 0);
-        }
+        Picture.everyByteAlone(false);
     }
 
     // Terms: "between them blanks (10, 32)"

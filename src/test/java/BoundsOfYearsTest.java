@@ -117,15 +117,7 @@ public final class BoundsOfYearsTest {
 
     // Part 4: "of such TOKENS" - alone
     private static void everyByteAlone() {
-        for (int b = 0; b <= 255; b++) {
-            BoreDesk desk = new BoreDesk();
-            boolean blank = b == 10 || b == 32;
-            boolean token = b >= 'a' && b <= 'z' || b >= '0' && b <= '9' || b == ';' || b == '<' || b == '>' || b == '=';
-            desk.feed(b << 24, 0, 0, 0, 0);
-            Desk.due(desk, "byte " + b, desk.years(1), blank ? 0 : -1, blank ? 0 : 9);
-            Desk.due("fault of byte " + b, desk.fault(0), blank ? 0 : token ? 2 : 1);
-            Desk.due("place of byte " + b, desk.fault(1), blank ? -1 : 0);
-        }
+        Picture.everyByteAlone(true);
     }
 
     // Part 4: "YEARS are a TEXT of at most 300 bytes, of such TOKENS" - as long as they go, between them blanks

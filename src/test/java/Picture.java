@@ -106,6 +106,19 @@ final class Picture {
         same(marked, withoutFault(desk), withoutFault(withoutTape()));
     }
 
+    /** A text of one byte: a blank is taken, all else is no whole text. */
+    static void everyByteAlone(boolean isOfYears) {
+        for (int b = 0; b <= 255; b++) {
+            BoreDesk desk = new BoreDesk();
+            boolean blank = b == 10 || b == 32;
+            boolean token = b >= 'a' && b <= 'z' || b >= '0' && b <= '9' || b == ';' || b == '<' || b == '>' || b == '=';
+            desk.feed(b << 24, 0, 0, 0, 0);
+            Desk.due(desk, "byte " + b, isOfYears ? desk.years(1) : desk.field(1), blank ? 0 : -1, blank ? 0 : 9);
+            Desk.due("fault of byte " + b, desk.fault(0), blank ? 0 : token ? 2 : 1);
+            Desk.due("place of byte " + b, desk.fault(1), blank ? -1 : 0);
+        }
+    }
+
     private static void same(String what, List<String> got, List<String> due) {
         Desk.due(what + ": as many lines", got.size(), due.size());
         for (int i = 0; i < due.size() && i < got.size(); i++) {
